@@ -845,7 +845,11 @@ public final class RingingCoins {
       int kind = text.kind();
       if (kind != Text.NOT && kind != Text.OPEN) {
         readSum();
-        readSign();
+        int sign = takeSign();
+        if (sign != 0) {
+          readSum();
+          law.addSign(sign);
+        }
       } else if (depth >= DEEPEST) {
         text.fail(Text.TOO_DEEP);
       } else if (kind == Text.NOT) {
@@ -862,19 +866,20 @@ public final class RingingCoins {
       }
     }
 
-    /** A SIGN and the SUM at its right. */
-    private void readSign() {
+    /** 0 where there is none, or one too many. */
+    private int takeSign() {
       int sign = text.kind();
       if (sign < Text.LESS || sign > Text.MORE) {
         text.fail(Text.MISPLACED);
       } else if (values >= MOST_VALUES) {
         text.fail(Text.TOO_LONG);
-      } else if (text.fault == 0) {
-        values++;
-        text.step();
-        readSum();
-        law.addSign(sign);
       }
+      if (text.fault != 0) {
+        return 0;
+      }
+      values++;
+      text.step();
+      return sign;
     }
   }
 
