@@ -156,6 +156,11 @@ public final class PromisesTest {
     due("a MINT of a COUNTER", Check.mint(x, "counter 0 0"), 0);
     due("no COIN", x.coin(0, 0), NONE);
     due("the empty set", x.fall(0), 0);
+    due("sounds of one MINT", x.sounds(0, 0, 0, 0, 0), FAR);
+    Check.mint(x, "coin 7 5 1 1;counter 0 0");
+    due("sounds of one MINT", x.sounds(0, 0, 1, 0, 0), 7);
+    Check.mint(x, "coin 8 5 1 1;counter 0 0");
+    due("sounds of the next", x.sounds(0, 0, 1, 0, 0), 8);
     due("greatest numbers", Check.mint(x, "coin 2400 99 999 99;counter 1200 99;blur 999;deaf 99"), 1);
     due("least numbers", Check.mint(x, "coin 0 1 0 1;counter 0 0;blur 0;deaf 0"), 1);
   }
@@ -179,6 +184,8 @@ public final class PromisesTest {
     badMint("counter 0,0", 9, 0);
     badMint("counter -1 0", 8, 0);
     badMint("counters 0 0", 0, 0);
+    badMint("counterz 0 0", 0, 0);
+    badMint("acounter 0 0", 0, 0);
     badMint("Counter 0 0", 0, 0);
     badMint(" note 1", 1, 0);
     badMint("5", 0, 0);
@@ -234,7 +241,14 @@ public final class PromisesTest {
     badLaw("note", 4, 0);
     badLaw("note ", 5, 0);
     badLaw("notes 1", 0, 0);
+    badLaw("notez 1", 0, 0);
+    badLaw("note`1", 4, 0);
+    badLaw("note{1", 4, 0);
+    badLaw("note 1:", 6, 0);
+    badLaw("note 1/", 7, 0);
     badLaw("worth 1", 0, 0);
+    badLaw("note counter", 5, 0);
+    badLaw("note blur", 5, 0);
     badLaw("note tough", 5, 0);
     badLaw("note if", 5, 0);
     badLaw("note not", 5, 0);
@@ -397,6 +411,7 @@ public final class PromisesTest {
     due("second of its word", x.sounds(1, 0, 7, 0, 0), 1);
     due("none of its word", x.sounds(1, 2, 7, 2, 0), 493);
     due("not of the set", x.sounds(0, 0, 6, 0, 0), FAR);
+    due("not of the set though it was heard", x.sounds(0, 0, 6, 3, 1), FAR);
     due("no COIN", x.sounds(0, 0, 6, 5, 0), FAR);
     due("no COIN below", x.sounds(0, 0, 6, -1, 0), FAR);
     due("the same bit, far off", x.sounds(0, 0, 6, 33, 0), FAR);
@@ -941,6 +956,8 @@ public final class PromisesTest {
     due("seed(5)", x.seed(5), 0);
     due("seed(2147483647)", x.seed(2147483647), 5);
     due("seed(-1)", x.seed(-1), NONE);
+    due("seed(0)", x.seed(0), 2147483647);
+    due("seed(2147483647) again", x.seed(2147483647), 0);
     due("x stays", x.count(7), 2147483647);
     x.give(2, 3);
     x.fall(4);
@@ -1030,6 +1047,10 @@ public final class PromisesTest {
     x.fall(2);
     x.retune(0, 7);
     due("behind", x.sounds(0, 0, 2, 1, 0), 502);
+    due("it goes back", x.image(1) + x.back(0), 10);
+    due("gone back to", x.sounds(0, 0, 2, 1, 0), 501);
+    due("and forth", x.back(1), 5);
+    due("there again", x.sounds(0, 0, 2, 1, 0), 502);
     Check.law(x, "note 1");
     x.image(1);
     due("another MINT", Check.mint(x, "coin 1 1 1 1;counter 5 6"), 1);
