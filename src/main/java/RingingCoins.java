@@ -1592,7 +1592,7 @@ public final class RingingCoins {
       }
     }
 
-    /** How many twos CLASH on a COUNTER; who with whom is kept for the ROUNDS. */
+    /** How many twos CLASH on a COUNTER; with which earlier ones each does is kept for the ROUNDS. */
     int findClashes(int counter) {
       int clashes = 0;
       for (int i = 0; i < now.payments; i++) {
@@ -1601,7 +1601,6 @@ public final class RingingCoins {
             chords.learnWithin(now.payCoins[i] | now.payCoins[j], MOST_COINS);
             if (isClash(now.payCoins[i], now.payCoins[j])) {
               clashing[i] |= 1 << j;
-              clashing[j] |= 1 << i;
               clashes++;
             }
           }

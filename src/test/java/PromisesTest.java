@@ -387,13 +387,21 @@ public final class PromisesTest {
     x.fall(4);
     due("sounds", x.sounds(0, 0, 4, 2, 0), 303);
     for (int i = 3; i < 9999; i++) {
-      x.fall(4);
+      x.fall(21);
     }
     due("falls", x.coin(2, 5), 9999);
     due("one more", x.fall(6), NONE);
     due("nothing happens", x.coin(1, 5), 1);
-    due("without it", x.fall(3), 2);
-    due("DONE with it", x.done(0, 0, 0, 1, 5), -2);
+    due("the others", x.fall(10), 2);
+    x.fall(17);
+    due("the first", x.fall(3), NONE);
+    due("the last", x.fall(24), NONE);
+    due("nothing happens", x.coin(3, 5), 2);
+    Check.law(x, "note coin*100");
+    due("it could be", x.pay(1, 0, 0, 1, 5, 1), 4);
+    due("DONE with it", x.done(1, 0, 0, 1, 5), -2);
+    due("nothing happens", x.coin(2, 4), 0);
+    due("DONE without it", x.done(1, 0, 0, 1, 2), 1);
   }
 
   /** Promise 11. */
@@ -728,6 +736,18 @@ public final class PromisesTest {
     y.give(4, 1);
     due("of several the first set least", y.pay(0, 0, 0, 1, 5, 1), 1);
     due("of several the second set least", y.pay(0, 0, 0, 1, 3, 2), 8);
+    StringBuilder twelve = new StringBuilder();
+    for (int i = 0; i < 12; i++) {
+      twelve.append("coin ").append(i).append(" 9 1 1;");
+    }
+    RingingCoins z = minted(twelve + "counter 0 0", "note note");
+    due("all twelve COINS", z.pay(0, 0, 0, 1, 12, 0), 12);
+    due("all twelve COINS: first", z.pay(0, 0, 0, 1, 12, 1), 4095);
+    for (int i = 0; i < 6; i++) {
+      z.give(2 * i, 1);
+    }
+    due("six of twelve", z.done(0, 0, 0, 1, 6), 6);
+    due("all twelve are HELD", z.count(11), 12);
     due("of several the first set least, not the second", y.pay(0, 0, 0, 1, 4, 1), 2);
   }
 
@@ -807,6 +827,8 @@ public final class PromisesTest {
     RingingCoins y = minted("coin 1 9 999 1;coin 2 9 1 1;counter 0 0", "note note");
     due("a price of 999", y.prices(0, 0, 0, 1, 999), 2);
     due("without it", y.prices(0, 0, 0, 1, 998), 1);
+    due("with it again", y.prices(0, 0, 0, 1, 999), 2);
+    due("what is HELD by none", y.prices(0, 0, 1, 0, 999), 0);
   }
 
   /** Promise 21. */
@@ -893,6 +915,8 @@ public final class PromisesTest {
     due("of one WORTH", y.rounds(0, 1), 0);
     y.payment(0, 4);
     due("of another WORTH", y.rounds(0, 1), 2);
+    Check.law(y, "strength 0 if many=2;note coin");
+    due("both together sound like none", y.rounds(1, 1), 2);
     due("ROUNDS", y.rounds(0, 0), 2);
   }
 
@@ -930,6 +954,14 @@ public final class PromisesTest {
     RingingCoins y = minted("coin 5 5 1 1;coin 5 5 1 1;coin 9 5 1 1;counter 0 0", "note note");
     due("of several the least as bits", y.land(0, 0, 1, 1), 1);
     due("not with both", y.land(0, 0, 2, 2), 5);
+    StringBuilder twelve = new StringBuilder();
+    for (int i = 1; i <= 12; i++) {
+      twelve.append("coin ").append(i).append(" 9 ").append(i).append(" 1;");
+    }
+    RingingCoins z = minted(twelve + "counter 0 0", "note note");
+    due("all twelve", z.land(0, 0, 12, 1), 4095);
+    due("all but the last", z.land(0, 0, 11, 1), 2047);
+    due("one too many", z.land(0, 0, 13, 1), -2);
   }
 
   /** Promise 25. */
