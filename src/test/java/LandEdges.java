@@ -35,7 +35,7 @@ final class LandEdges {
       coins.append("coin ").append(100 * i).append(" 9 ").append(worth[i]).append(" 9;");
     }
     RingingCoins x = Edge.minted(coins + "counter 0 0", "note note");
-    // Without 192 each price up to 191 takes one COIN of each three at most, and 192 is 64 and 128.
+    // One of each three at most, and each price up to 255 is to be had; fewer COINS may do up to 200.
     due("p 200", x.land(0, 0, 200, 4), leastLandOf200(worth));
     due("p 201", x.land(0, 0, 201, 4), NONE);
   }
@@ -103,7 +103,7 @@ final class LandEdges {
 
   static void theFewestCoins() {
     Edge.says(24, "the fewest COINS of all (of several the least as bits)");
-    // 1 to 3 by two COINS: 1 and 2 are the COINS 3 and 4, or 0 and 4; 1, 1 and 1 would be three.
+    // 1 to 3 are to be had by COIN 4 and one of the others, or by three of the others.
     RingingCoins x = Edge.minted("coin 1 9 1 1;coin 2 9 1 1;coin 3 9 1 1;coin 4 9 1 1;coin 5 9 2 1;counter 0 0", "note note");
     due("the fewest, of several the least", x.land(0, 0, 3, 3), 17);
     due("of one COIN the least", x.land(0, 0, 1, 3), 1);

@@ -79,9 +79,9 @@ final class PayEdges {
     for (int coin = 0; coin < 11; coin++) {
       x.give(coin, 5);
     }
-    // 17 less eight times 2: nine COINS; less eleven times it would be below 0.
+    // 17 less eight times 2, of eleven the least as bits; nine times would be below 0.
     paid(x, 1, 9, 2048, 255);
-    due("what the other one HOLDS can't be paid", x.pay(0, 0, 0, 5, 2, 0), CANNOT);
+    due("2", x.pay(0, 0, 0, 5, 2, 0), CANNOT);
   }
 
   static void payCant() {
@@ -629,7 +629,7 @@ final class PayEdges {
     x.payment(NONE, 0);
     x.payment(0, 1);
     x.payment(0, 2);
-    due("1 and nothing: nothing sounds like both", x.rounds(0, 1), 1);
+    due("WORTH 1 and WORTH 0: that of 0 sounds like both", x.rounds(0, 1), 1);
     x.payment(NONE, 0);
     x.payment(0, 5);
     x.payment(0, 8);
