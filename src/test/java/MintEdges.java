@@ -494,7 +494,8 @@ final class MintEdges {
 
   static void aWordThatCantStandThere() {
     Edge.says(4, "0 a byte or word that can't stand there");
-    for (String word : new String[] {"counters", "counterz", "countera", "count", "acounter", "x", "note", "strength", "coins", "coi", "blurr", "deafer"}) {
+    String words = "counters counterz countera count acounter x note strength coins coi blurr deafer";
+    for (String word : words.split(" ")) {
       bad("", word + " 0 0", 0);
       bad("blur 5;  ", word + " 0 0", 0);
     }
